@@ -1538,7 +1538,7 @@ public final class GallopDispatch {
         void setOut(Told told, State state, Law lawThatHolds) {
             men = told.menCount;
             length = Math.min(ROAD_LIMIT, told.rules[Told.LENGTH]);
-            pace = Math.max(1, state.pace);
+            pace = state.pace;
             mud = state.mud;
             law = lawThatHolds;
             copyRow(state.stands, stands);
@@ -1572,7 +1572,7 @@ public final class GallopDispatch {
         /** MEN from one to ahead of another are heard at each STEP of this PACE. */
         void hear(int from, int to) {
             for (int man = from; man < to; man++) {
-                for (int step = 0; step <= length; step += pace) {
+                for (int step = 0; step <= length; step += Math.max(1, pace)) {
                     loud[man][step] = loudness(man, step);
                 }
             }
@@ -1595,7 +1595,7 @@ public final class GallopDispatch {
         }
 
         void ridePace(int other) {
-            pace = Math.max(1, other);
+            pace = other;
             hear(0, men);
         }
 
@@ -1624,7 +1624,7 @@ public final class GallopDispatch {
             size = 0;
             slips = 0;
             int limit = Math.min(room, WORD_LIMIT);
-            for (int step = 0; step <= length && size < limit; step += pace) {
+            for (int step = 0; step <= length && size < limit; step += Math.max(1, pace)) {
                 int loudest = loudestAt(step);
                 if (loudest == NONE) {
                     continue;
@@ -1690,7 +1690,7 @@ public final class GallopDispatch {
             parts[0] = ALL_PARTS;
             int limit = Math.min(room, WORD_LIMIT);
             long naming = 0;
-            for (int step = 0; step <= length; step += pace) {
+            for (int step = 0; step <= length; step += Math.max(1, pace)) {
                 int loudest = loudestAt(step);
                 if (loudest == NONE) {
                     continue;
