@@ -461,8 +461,7 @@ public final class GallopDispatch {
     }
 
     private void rideNow() {
-        setCourse();
-        course.hear(0, told.menCount);
+        hearNow();
         course.go(room());
     }
 
@@ -486,17 +485,11 @@ public final class GallopDispatch {
         if (noRide()) {
             return NONE;
         }
-        hearNow();
+        rideNow();
         switch (what) {
-            case 0:
-                course.go(room());
-                return course.slips;
-            case 1:
-                course.go(room());
-                return ((1 << told.menCount) - 1) & ~course.namedBits();
-            case 2:
-                course.go(room());
-                return course.lastStep(room());
+            case 0: return course.slips;
+            case 1: return ((1 << told.menCount) - 1) & ~course.namedBits();
+            case 2: return course.lastStep(room());
             case 3:
                 course.go(WORD_LIMIT);
                 return course.roomForAll();

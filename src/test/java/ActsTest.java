@@ -4,6 +4,7 @@ public final class ActsTest {
         Check check = new Check("ActsTest");
         moves(check);
         voices(check);
+        justEnough(check);
         deeds(check);
         horse(check);
         fords(check);
@@ -56,6 +57,17 @@ public final class ActsTest {
         check.due("below", x.voice(0, -1), -1);
         check.due("no such man", x.voice(2, 1), -1);
         statusIs(check, x, 1, 2, 1, 1, 0);
+    }
+
+    /** As many coins as it costs are enough. */
+    private static void justEnough(Check check) {
+        check.due("a voice for 2", Check.ride("sc2;d").voice(0, 9), 0);
+        check.due("a horse for 3", Check.ride("sp2c3;d").feedHorse(false), 1);
+        check.due("a ford for 1", Check.ride("sc1;d;fd1").fill(0), 0);
+        check.due("a way of 5 for 5", Check.ride("sc5;d").move(0, 10), 0);
+        check.due("a voice for 1", Check.ride("sc1;d").voice(0, 9), -1);
+        check.due("a horse for 2", Check.ride("sp2c2;d").feedHorse(false), -1);
+        check.due("a way of 5 for 4", Check.ride("sc4;d").move(0, 0), -1);
     }
 
     private static void deeds(Check check) {
@@ -157,6 +169,8 @@ public final class ActsTest {
         statusIs(check, x, 0, 1, 0, 0, 2);
         check.due("undone", x.undo(), 39);
         check.due("there is room for it", x.days(1), 999);
+        x.undo();
+        check.due("by years, too", x.years(1, 1L), 999);
     }
 
     private static void mostOfGloryAndCoins(Check check) {

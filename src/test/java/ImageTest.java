@@ -4,6 +4,7 @@ public final class ImageTest {
         Check check = new Check("ImageTest");
         backAndForth(check);
         logOfTheImage(check);
+        linesOfTheImage(check);
         counts(check);
         check.end();
     }
@@ -75,6 +76,21 @@ public final class ImageTest {
         x.undo();
         check.due("and back", x.log(40, 0), 0);
         check.due("the last", x.log(59, 0), 0);
+    }
+
+    private static void linesOfTheImage(Check check) {
+        GallopDispatch x = Check.ride("sl10p5w3m1;dr1;dr2");
+        Check.hold(x, "y:r=1?1");
+        x.days(60);
+        x.image();
+        Check.hold(x, "y:r=1&n<1?9");
+        x.days(60);
+        for (int turn = 0; turn < 2; turn++) {
+            check.due("words", x.log(30, 0), turn == 0 ? 1 : 3);
+            check.due("slips", x.log(30, 1), turn == 0 ? 0 : 3);
+            check.due("who was mentioned", x.log(30, 2), turn == 0 ? 1 : 2);
+            check.due("back", x.back(), 60);
+        }
     }
 
     private static void counts(Check check) {

@@ -39,6 +39,7 @@ public final class PensionsAndGamesTest {
         check.due("no such man", x.pension(3, 1, 0), -1);
         check.due("no such man", x.pension(-1, 1, 1), -1);
         check.due("unfair", x.unfair(100), 50 + 9 + 41);
+        check.due("unfair, asked first", three().unfair(100), 50 + 9 + 41);
         check.due("unfair of nought", x.unfair(0), 0);
         check.due("unfair of 1000", x.unfair(1000), -1);
         check.due("unfair of -1", x.unfair(-1), -1);
@@ -146,5 +147,13 @@ public final class PensionsAndGamesTest {
         Check.hold(x, "y:n<6&r=1?9;y:n=6&r=2?9");
         // 330000000 108900000 35937000 11859210 3913539 1291467, of which 426184 hear nothing again.
         check.due("cut each time", x.odds(1, 33), 1291467 - 426184);
+        GallopDispatch y = Check.ride("sl30p1w20m0;dr1;dr2");
+        Check.hold(y, "y:n<30&r=1?9;y:n=30&r=2?9");
+        check.due("room for twenty of thirty, at the last step", y.odds(1, 0), 0);
+        check.due("all are silent", y.odds(1, 100), 0);
+        Check.hold(y, "y:n<19&r=1?9;y:n=30&r=2?9");
+        check.due("room for the twentieth", y.odds(1, 0), 1000000000);
+        Check.hold(y, "y:n<3&r=1?9;y:n=30&r=2?9");
+        check.due("half of the time", y.odds(1, 50), 500000000);
     }
 }

@@ -32,6 +32,8 @@ public final class PlacesTest {
         check.due("no such man", x.span(-1), -1);
         x.fill(0);
         check.due("3", x.span(0), 3);
+        check.due("the last step", Check.ride("sl10p1;dx10v1r0").span(0), 1);
+        check.due("the first step", Check.ride("sl10p1;dx0v1r0").span(0), 1);
     }
 
     private static void nearest(Check check) {
@@ -61,6 +63,8 @@ public final class PlacesTest {
         Check.hold(x, "y:r");
         x.days(1);
         check.due("famous", x.most(1), 1);
+        check.due("the first is highest", Check.ride("dr2;dr1;dr2").most(2), 0);
+        check.due("one alone", Check.ride("d").most(2), 0);
         GallopDispatch dry = Check.ride("d;f x3 d0");
         check.due("a ford without depth", dry.most(3), 0);
         check.due("no ford", Check.ride("d").most(3), -1);
@@ -76,6 +80,9 @@ public final class PlacesTest {
         check.due("the last that is within", x.ahead(1, 2997), 999);
         check.due("not within", x.ahead(1, 2998), -1);
         check.due("never", x.ahead(0, 1), -1);
+        GallopDispatch famous = Check.ride("sl30p1w20m0;d");
+        Check.hold(famous, "y:9");
+        check.due("the most that there is", famous.ahead(0, 9999), 500);
         check.due("nought", x.ahead(1, 0), -1);
         check.due("10,000", x.ahead(1, 10000), -1);
         check.due("no such man", x.ahead(2, 1), -1);

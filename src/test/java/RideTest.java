@@ -8,6 +8,7 @@ public final class RideTest {
         words(check);
         slips(check);
         rides(check);
+        fordsOfEachRide(check);
         room(check);
         stands(check);
         gaits(check);
@@ -82,6 +83,27 @@ public final class RideTest {
         check.due("time", x.ride(5), 5);
         x.feedHorse(true);
         check.due("time, cut", x.ride(5), 3);
+        x.feedHorse(false);
+        x.feedHorse(false);
+        check.due("time at pace 1", x.ride(5), 10);
+        check.due("left out, asked first", road().ride(1), 0b0110);
+        check.due("slips, asked first", Check.ride("sl5;dv2x0r0").ride(0), 1);
+        GallopDispatch one = Check.ride("sl10w1;dx10v9");
+        check.due("last, asked first, of room for one", one.ride(2), 4);
+    }
+
+    /** A ford is wet where it is, at both ends of the road, too, and not where another ride's was. */
+    private static void fordsOfEachRide(Check check) {
+        GallopDispatch x = Check.ride("sl30p5w20m0;dr3;fx0;fx30;fx5;fx15d0");
+        Check.hold(x, "y:5");
+        check.due("words at 10, 15, 20, 25", x.words(-1), 4);
+        check.due("dry", x.ride(4), 28);
+        check.due("heard at 0", x.heard(0, 0), 0);
+        check.due("heard at 30", x.heard(0, 30), 0);
+        check.due("heard at 29", x.heard(0, 29), 5);
+        Check.tell(x, "sl30p5w20m0;d;fx20", 0);
+        check.due("words but at 20", x.words(-1), 6);
+        check.due("dry", x.ride(4), 30);
     }
 
     private static void room(Check check) {
@@ -99,6 +121,9 @@ public final class RideTest {
         check.due("twenty", far.ride(3), 20);
         Check.hold(far, "y:n<20&r=9?9;y:n>19&r=1?9");
         check.due("whom twenty have not, nobody waits for", far.ride(3), 1);
+        GallopDispatch late = Check.ride("sl10p5m0;dx10;dx0");
+        Check.hold(late, "y:d=0?9");
+        check.due("the first by number as the last", late.ride(3), 2);
     }
 
     private static void stands(Check check) {
@@ -115,6 +140,10 @@ public final class RideTest {
         GallopDispatch near = Check.ride("sl10p1w20m0;dx0v3r0");
         check.due("five around", near.stand(0, 0), 2);
         check.due("how many", near.stand(0, 1), 5);
+        Check.hold(near, "y:d=n&n=0?9;y:n-9>0&d=0?9");
+        check.due("the last place of all", near.stand(0, 0), 0);
+        Check.hold(near, "y:n=10&d=0?9");
+        check.due("the end of the road", near.stand(0, 0), 10);
         Check.hold(near, "y:0");
         check.due("no place is better", near.stand(0, 0), 0);
         check.due("how many", near.stand(0, 1), 0);
@@ -134,6 +163,9 @@ public final class RideTest {
         check.due("by the pace itself", x.gait(0, 0), 3);
         check.due("how many", x.gait(0, 1), 3);
         check.due("the pace is as it was", x.rule(1), 2);
+        Check.hold(x, "y:p=5?9");
+        check.due("the fastest", x.gait(0, 0), 5);
+        check.due("how many", x.gait(0, 1), 3);
     }
 
     private static void puts(Check check) {
@@ -144,6 +176,12 @@ public final class RideTest {
         check.due("put(-1)", x.put(-1), -1);
         Check.hold(x, "y:9");
         check.due("another place than now", x.put(0), 1);
+        GallopDispatch y = Check.ride("sl10p5m0;dx5;dx5");
+        Check.hold(y, "y:d=0?9");
+        check.due("the first to 0", y.put(0), 0);
+        Check.hold(y, "y:d=0&r+n>5?9");
+        check.due("the first to 10", y.put(0), 10);
+        check.due("how many", y.put(1), 2);
         check.due("how many", x.put(1), 1);
         x.law(0);
         x.move(1, 2);

@@ -42,6 +42,8 @@ public final class RideTextTest {
         "sl300", "4",
         "sl999", "4",
         "sl3 0", "2",
+        "dx005", "4",
+        "dx0005", "4",
         "sl5 0", "4",
         "s l 30 ;d", "-1",
         "sp0", "2",

@@ -4,6 +4,8 @@ public final class SeenTest {
         Check check = new Check("SeenTest");
         seen(check);
         who(check);
+        oneByOne(check);
+        seven(check);
         asTold(check);
         byTheLaw(check);
         check.end();
@@ -68,6 +70,49 @@ public final class SeenTest {
         check.due("no sixth word is not 0", y.who(3, -1), 2);
         y.seen(5, 0, true);
         check.due("no sixth word is 0", y.who(3, -1), 0);
+    }
+
+    /** Only with 0 four on is 1 ahead of all; only with none four on has each his own word. */
+    private static void oneByOne(Check check) {
+        GallopDispatch x = Check.ride("sl20p1w5m0;dx1;dx5;dx9");
+        Check.hold(x, "y:d=0?9");
+        // Four on: 0 covers 1 (0 2), 1 covers 2 (0 1), 2 at 13 (0 1 2), none (0 1 2).
+        x.seen(1, 2, true);
+        check.due("0 alone", x.who(4, -1), 1);
+        check.due("0", x.who(4, 0), 0);
+        GallopDispatch y = Check.ride("sl20p1w5m0;dx1;dx5;dx9");
+        Check.hold(y, "y:d=0&n=9?9;y:d=0&n=18?9");
+        // Nine on only 2 is moved from where he is heard: 2, 2, 2 (at 18), 2: then by law 1 as well.
+        check.due("all fit", y.who(9, -1), 4);
+        y.seen(0, 2, false);
+        check.due("none of them", y.who(9, -1), 0);
+        GallopDispatch z = Check.ride("sl20p1w5m0;dx1;dx5;dx9");
+        Check.hold(z, "y:d=0&n=9?9");
+        z.seen(0, 2, false);
+        check.due("2 moved away", z.who(9, -1), 1);
+        check.due("2", z.who(9, 0), 2);
+        check.due("none is not among them", z.who(9, 1), -1);
+        check.due("g 1", z.who(1, 0), 2);
+        check.due("look for g 1", z.best(1), 0);
+        check.due("look for g 9", z.best(9), 0);
+    }
+
+    /** Six men and none: seven fit; the first word parts them best. */
+    private static void seven(Check check) {
+        GallopDispatch x = Check.ride("sl10p1w1m0;d;d;d;d;d;d");
+        check.due("seven", x.who(1, -1), 7);
+        check.due("the last", x.who(1, 6), 9);
+        check.due("the last but one", x.who(1, 5), 5);
+        check.due("none behind", x.who(1, 7), -1);
+        // As told 0 is set down first, but he is not if he stands further on.
+        check.due("the first word", x.best(1), 0);
+        GallopDispatch y = Check.ride("sl10p5w5m0;dx0;dx9");
+        Check.hold(y, "y:n=0&d=1?9;y:n=5?r");
+        // One on: with 0 the words are 0 0 (at 0 and 5), with 1 and with none 0 alone (at 5).
+        check.due("the second word", y.best(1), 1);
+        Check.hold(y, "y:n=0&d=1?9;y:n=0&d=9?8");
+        // One on: with 0 the word is 0, with 1 nobody, with none 1.
+        check.due("the first word", y.best(1), 0);
     }
 
     private static void asTold(Check check) {

@@ -4,6 +4,7 @@ public final class TapeTest {
         Check check = new Check("TapeTest");
         ordinary(check);
         limit(check);
+        limitByEach(check);
         cutting(check);
         check.end();
     }
@@ -35,7 +36,29 @@ public final class TapeTest {
         check.due("the last one", x.feed(0, 0, 0x00640000, 0, 0), 240);
         check.due("one too many", x.feed(0, 0, 0, 0, 0x64), -1);
         check.due("none more is none too many", x.feed(0, 0, 0, 0, 0), 240);
+        for (int k = 0; k < 20; k++) {
+            int[] n = new int[5];
+            n[k / 4] = 1 << 8 * (k % 4);
+            check.due("one too many at " + k, x.feed(n[0], n[1], n[2], n[3], n[4]), -1);
+        }
         check.due("a man behind 239 blanks", x.fault(0), -1);
+    }
+
+    /** Wherever in the five numbers the bytes stand, all of them count. */
+    private static void limitByEach(Check check) {
+        for (int k = 0; k < 5; k++) {
+            GallopDispatch x = new GallopDispatch();
+            for (int j = 0; j < 11; j++) {
+                x.feed(-1, -1, -1, -1, -1);
+            }
+            x.feed(-1, -1, -1, -1, 0x01010000);
+            int[] n = {0, 0, 0, 0, 0};
+            n[k] = 0x00010001;
+            n[(k + 1) % 5] = 0x80000000;
+            check.due("238 and three", x.feed(n[0], n[1], n[2], n[3], n[4]), -1);
+            n[(k + 1) % 5] = 0;
+            check.due("238 and two", x.feed(n[0], n[1], n[2], n[3], n[4]), 240);
+        }
     }
 
     private static void cutting(Check check) {
