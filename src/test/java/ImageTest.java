@@ -86,9 +86,12 @@ public final class ImageTest {
         Check.hold(x, "y:r=1&n<1?9");
         x.days(60);
         for (int turn = 0; turn < 2; turn++) {
-            check.due("words", x.log(30, 0), turn == 0 ? 1 : 3);
-            check.due("slips", x.log(30, 1), turn == 0 ? 0 : 3);
-            check.due("who was mentioned", x.log(30, 2), turn == 0 ? 1 : 2);
+            // The latest line and the oldest, which a later day's line was written over.
+            for (int i = 0; i < 60; i += 59) {
+                check.due("words", x.log(i, 0), turn == 0 ? 1 : 3);
+                check.due("slips", x.log(i, 1), turn == 0 ? 0 : 3);
+                check.due("who was mentioned", x.log(i, 2), turn == 0 ? 1 : 2);
+            }
             check.due("back", x.back(), 60);
         }
     }

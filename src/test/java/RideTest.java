@@ -140,8 +140,6 @@ public final class RideTest {
         GallopDispatch near = Check.ride("sl10p1w20m0;dx0v3r0");
         check.due("five around", near.stand(0, 0), 2);
         check.due("how many", near.stand(0, 1), 5);
-        Check.hold(near, "y:d=n&n=0?9;y:n-9>0&d=0?9");
-        check.due("the last place of all", near.stand(0, 0), 0);
         Check.hold(near, "y:n=10&d=0?9");
         check.due("the end of the road", near.stand(0, 0), 10);
         Check.hold(near, "y:0");

@@ -72,7 +72,7 @@ public final class SeenTest {
         check.due("no sixth word is 0", y.who(3, -1), 0);
     }
 
-    /** Only with 0 four on is 1 ahead of all; only with none four on has each his own word. */
+    /** Each telling is weighed by itself: what was moved for one is back in its place for the next. */
     private static void oneByOne(Check check) {
         GallopDispatch x = Check.ride("sl20p1w5m0;dx1;dx5;dx9");
         Check.hold(x, "y:d=0?9");
@@ -82,7 +82,7 @@ public final class SeenTest {
         check.due("0", x.who(4, 0), 0);
         GallopDispatch y = Check.ride("sl20p1w5m0;dx1;dx5;dx9");
         Check.hold(y, "y:d=0&n=9?9;y:d=0&n=18?9");
-        // Nine on only 2 is moved from where he is heard: 2, 2, 2 (at 18), 2: then by law 1 as well.
+        // They are heard at 9 and 18 alone: nine on 0 comes to 10 and 1 to 14, 2 from 9 to 18.
         check.due("all fit", y.who(9, -1), 4);
         y.seen(0, 2, false);
         check.due("none of them", y.who(9, -1), 0);
@@ -113,6 +113,9 @@ public final class SeenTest {
         Check.hold(y, "y:n=0&d=1?9;y:n=0&d=9?8");
         // One on: with 0 the word is 0, with 1 nobody, with none 1.
         check.due("the first word", y.best(1), 0);
+        Check.hold(y, "y:n=0&d=1?9;y:n=0&d=9?8;y:n=5&d=4?9");
+        // One on: with 0 the words are 0 0, with 1 none, with none 1 1: of both words the least.
+        check.due("the first of two alike", y.best(1), 0);
     }
 
     private static void asTold(Check check) {
