@@ -1,5 +1,8 @@
 /** What the tests share: feeding a text, comparing answers, counting those that are wrong. */
 final class Check {
+    /** Stands for an exception among answers; no call answers so much. */
+    static final long THROWN = 1L << 40;
+
     private final String name;
     private int wrong;
     private int asked;
@@ -29,6 +32,15 @@ final class Check {
             thrown = e.getClass() == java.util.NoSuchElementException.class;
         }
         due(what + " throws", thrown, true);
+    }
+
+    /** What man(..) answers, THROWN if it throws NoSuchElementException itself. */
+    static long man(GallopDispatch x, int man, int what) {
+        try {
+            return x.man(man, what);
+        } catch (java.util.NoSuchElementException e) {
+            return e.getClass() == java.util.NoSuchElementException.class ? THROWN : -THROWN;
+        }
     }
 
     /** Ends the test's program, with 1 if an answer was wrong. */
