@@ -11,6 +11,7 @@ public final class Promise02FeedTest {
         zerosAreLeftOut(check);
         allOtherBytesCount(check);
         twoHundredAndForty(check);
+        twoHundredAndFortyOfAnyBytes(check);
         refusedWhole(check);
         roomAgain(check);
         check.end();
@@ -89,6 +90,32 @@ public final class Promise02FeedTest {
             n[k] = 0x20000020;
             check.due("238 and 2", filled(238).feed(n[0], n[1], n[2], n[3], n[4]), 240);
             check.due("239 and 2", filled(239).feed(n[0], n[1], n[2], n[3], n[4]), -1);
+        }
+    }
+
+    /** Whatever the bytes are: as many as are not 0 need room, no more and no fewer. */
+    private static void twoHundredAndFortyOfAnyBytes(Check check) {
+        int[] bytes = {0, 1, 2, 127, 128, 254, 255};
+        for (int first : bytes) {
+            for (int second : bytes) {
+                for (int turn = 0; turn < 5; turn++) {
+                    int number = first << 24 | second << 16 | first << 8 | second;
+                    int size = (first != 0 ? 2 : 0) + (second != 0 ? 2 : 0);
+                    int[] n = new int[5];
+                    n[turn] = number;
+                    check.due("just room", filled(240 - size).feed(n[0], n[1], n[2], n[3], n[4]), 240);
+                    if (size > 0) {
+                        check.due("one too many", filled(241 - size).feed(n[0], n[1], n[2], n[3], n[4]), -1);
+                    }
+                }
+            }
+        }
+        for (int place = 0; place < 4; place++) {
+            for (int value = 1; value < 256; value++) {
+                int number = value << 8 * place;
+                check.due("just room for " + value, filled(239).feed(0, 0, number, 0, 0), 240);
+                check.due("no room for " + value, filled(240).feed(0, 0, number, 0, 0), -1);
+            }
         }
     }
 

@@ -10,6 +10,7 @@ public final class Promise05TextTest {
         whatStays();
         nothingOfTheOldRideLingers();
         numbersOfLaws();
+        lawsLookedAtBefore();
         fourLaws();
         aLawLeavesTheRide();
         noSuchSort();
@@ -149,6 +150,29 @@ public final class Promise05TextTest {
             x.law(k);
             check.due("each is its own", x.heard(0, 0), k + 5);
         }
+    }
+
+    /** What was on the TAPE before, told or only looked at, is not in a LAW. */
+    private static void lawsLookedAtBefore() {
+        GallopDispatch x = Check.ride("dv7");
+        for (int k = 0; k < 9; k++) {
+            Check.faultOf(x, "y:v" + "+1-1".repeat(59), 1);
+        }
+        Check.hold(x, "y:v-3");
+        check.due("a short one behind long ones", x.heard(0, 5), 4);
+        Check.hold(x, "y:1;y:v=7?2;y:!v=1?3;y:5;y:9");
+        Check.hold(x, "y:v=6?3");
+        check.due("no clause of a longer one", x.heard(0, 5), 0);
+        Check.faultOf(x, "y:!v=1?2", 1);
+        Check.hold(x, "y:v-2");
+        check.due("no sign of a longer one", x.heard(0, 5), 5);
+        x.law(0);
+        check.due("the first as it was", x.heard(0, 5), 4);
+        x.law(1);
+        check.due("the second as it was", x.heard(0, 5), 1);
+        Check.faultOf(x, "y:8;y:8", 1);
+        Check.tell(x, "y:8;", 1);
+        check.due("a law that is only looked at changes none", x.heard(0, 5), 1);
     }
 
     /** "there are four LAWS": a third, a fourth, a fifth. */

@@ -10,6 +10,8 @@ public final class Promise10HeardTest {
         rankByThree();
         heldWithin();
         fords();
+        fordsAtBothEnds();
+        fordsOfAnotherRide();
         lettersAsNow();
         bounded();
         division();
@@ -128,6 +130,30 @@ public final class Promise10HeardTest {
         check.due("none is left", x.heard(1, 12), 9);
         x.law(-1);
         check.due("a ford without a law", x.heard(1, 7), 0);
+    }
+
+    private static void fordsAtBothEnds() {
+        for (int length = 5; length <= 30; length++) {
+            GallopDispatch x = Check.ride("sl" + length + ";d;fx0d9;fx" + length + "d1");
+            Check.hold(x, "y:9");
+            check.due("at the start", x.heard(0, 0), 0);
+            check.due("behind it", x.heard(0, 1), 9);
+            check.due("ahead of the end", x.heard(0, length - 1), 9);
+            check.due("at the end", x.heard(0, length), 0);
+        }
+    }
+
+    /** Another RIDE has FORDS of its own. */
+    private static void fordsOfAnotherRide() {
+        GallopDispatch x = Check.ride("sl30;d;fx0;fx7;fx29;fx30");
+        Check.hold(x, "y:9");
+        x.words(-1);
+        check.due("at the end", x.heard(0, 30), 0);
+        Check.tell(x, "sl30;d;fx8", 0);
+        for (int step = 0; step <= 30; step++) {
+            check.due("heard(0, " + step + ")", x.heard(0, step), step == 8 ? 0 : 9);
+        }
+        check.due("dry", x.ride(4), 30);
     }
 
     /** "v VOICE, d how far, p PACE, m MUD, r RANK, n the STEP" */
@@ -261,6 +287,10 @@ public final class Promise10HeardTest {
         worth("y:v=6&(v=6|v=7)?1;y:2", 2);
         worth("y:!v=6&v=6?1;y:2", 2);
         worth("y:!(v=6&v=6)?1;y:2", 1);
+        worth("y:!v=6&v=7?1;y:2", 1);
+        worth("y:v=7&!v=6?1;y:2", 1);
+        worth("y:!v=6&!v=8?1;y:2", 1);
+        worth("y:v=6|!v=6?1;y:2", 1);
         worth("y:!v=7|v=7?1;y:2", 1);
         worth("y:!(v=7|v=7)?1;y:2", 2);
         worth("y:!!v=7?1;y:2", 1);

@@ -80,6 +80,9 @@ public final class Promise25RideTest {
         check.due("with more room than it needs", ride("sl10p1m0w20;dr0;dr1", "y:n=r?9").ride(3), 2);
         check.due("with less room than it needs", ride("sl5p1m0w1;dr0;dr1;dr2;dr3;dr4;dr5", "y:n=r?9").ride(3), 6);
         check.due("by slips, too", ride("sl10p5m1w9;dr1;dr2", "y:n<10&r=1?9;y:n=10&r=1?2").ride(3), 3);
+        check.due("the first man as the last", ride("sl10p1m0;dr1;dr0", "y:n=r?9").ride(3), 2);
+        check.due("each man at each place", ride("sl5p1m0;dr5;dr4;dr3;dr2;dr1;dr0", "y:n=r?9").ride(3), 6);
+        check.due("the first one alone, late", ride("sl10p1m0;dr3;dr0", "y:r=3&n=7?9").ride(3), 1);
         GallopDispatch x = ride("sl5p1m0w1;dr0;dr1;dr2", "y:n=r?9");
         check.due("room", x.ride(3), 3);
         check.due("words as there is room for", x.words(-1), 1);

@@ -10,6 +10,8 @@ public final class Promise32BestTest {
         ofSeveralTheLeast();
         theFewest();
         nobodyToo();
+        theFirst();
+        sixMen();
         toTheTwentieth();
         asTold();
         check.end();
@@ -87,6 +89,31 @@ public final class Promise32BestTest {
         // 0 2 - and 0 1 -: the second tells them apart.
         check.due("two fit", x.who(3, -1), 2);
         check.due("the second", x.best(3), 1);
+    }
+
+    /** The first WORD where it tells more than the next. */
+    private static void theFirst() {
+        GallopDispatch x = Check.ride("sl10p5w5m0;dx4r1;dx4r2;dx4r3");
+        Check.hold(x, "y:n=0&d=5&r<3?9;y:n=0&r=3?5;y:n=5&d=0&r=1?9;y:n=5&r=3?5");
+        // One on: 0 0, 1 2, 2 2, and 2 2 with none: of the first word two tell alike, of the second three.
+        check.due("the first", x.best(1), 0);
+        x.seen(0, 2, false);
+        check.due("two are left", x.who(1, -1), 2);
+        check.due("both words part them", x.best(1), 0);
+        x.seen(1, 2, false);
+        check.due("one is left", x.who(1, 0), 0);
+    }
+
+    /** Seven can fit at most. */
+    private static void sixMen() {
+        GallopDispatch x = Check.ride("sl30p5w5m0;dx4r1;dx4r2;dx4r3;dx4r4;dx4r5;dx4r6");
+        Check.hold(x, "y:n=0&r=6?5;y:n=5&d=0?9;y:n=5&r=6?1");
+        // The first word is 5 with all; the second is whoever moved, 5 with him and with none.
+        check.due("seven fit", x.who(1, -1), 7);
+        check.due("the second", x.best(1), 1);
+        x.seen(1, 0, false);
+        check.due("six fit", x.who(1, -1), 6);
+        check.due("the second still", x.best(1), 1);
     }
 
     /** "the WORD (0 .. 19)": the last one may be it. */

@@ -6,6 +6,7 @@ public final class Promise34UnfairTest {
         check = new Check("Promise34UnfairTest");
         outOfBounds();
         howFar();
+        sixMen();
         allNought();
         check.end();
     }
@@ -38,6 +39,15 @@ public final class Promise34UnfairTest {
         check.due("of ten", y.unfair(10), 3);
         // Of 999: 599 399 0 and 499 333 166.
         check.due("of 999", y.unfair(999), 100 + 66 + 166);
+    }
+
+    private static void sixMen() {
+        GallopDispatch x = Check.ride("sl5p1w20m0;dx0e9;dx1e9;dx2e9;dx3e9;dx4e9;dx5e0");
+        Check.hold(x, "y:d=0?9");
+        // Of 90: 15 each by mentions, 18 each but the last by deeds.
+        check.due("six", x.unfair(90), 5 * 3 + 15);
+        Check.tell(x, "sl5p1w20m0;dx0e1;dx1e1", 0);
+        check.due("none of another ride's men", x.unfair(90), 0);
     }
 
     private static void allNought() {

@@ -13,6 +13,7 @@ public final class Promise37OddsTest {
         groupsAreCutEach();
         never();
         bySlips();
+        onlyAtEachThatCanBeDivided();
         check.end();
     }
 
@@ -126,6 +127,20 @@ public final class Promise37OddsTest {
         oddsAre("never heard", "sm0;d", "y:0", 0, 0, 0);
         oddsAre("never heard", "sm0;d", "y:0", 0, 50, 0);
         oddsAre("always another", "sm0;d;d", "y:9", 1, 50, 0);
+    }
+
+    /** By PACE, whatever was asked before. */
+    private static void onlyAtEachThatCanBeDivided() {
+        for (int pace = 2; pace <= 5; pace++) {
+            GallopDispatch x = Check.ride("sl30p" + pace + "w20m0;d");
+            Check.hold(x, "y:n=0|n=1|n=7|n=30?9");
+            x.gait(0, 0);
+            for (int step = 0; step <= 30; step++) {
+                x.loudest(step);
+            }
+            // He is heard at 0, and but for a PACE of 4 at 30.
+            check.due("odds by pace " + pace, x.odds(0, 50), pace == 4 ? ALL / 2 : ALL / 4 * 3);
+        }
     }
 
     private static void bySlips() {

@@ -10,6 +10,7 @@ public final class Promise44BackTest {
         whatStays();
         noActCanBeUndoneThen();
         theLogOfThen();
+        allOfItsLines();
         everAgain();
         check.end();
     }
@@ -162,6 +163,24 @@ public final class Promise44BackTest {
         y.back();
         for (int i = 0; i < 3; i++) {
             check.due("a line of then", y.log(i, 0), 7);
+        }
+    }
+
+    /** WORDS, SLIPS, and who was MENTIONED. */
+    private static void allOfItsLines() {
+        GallopDispatch x = Check.ride("sl10p5w3m1;dr1;dr2");
+        Check.hold(x, "y:r=1?1");
+        x.days(60);
+        x.image();
+        Check.hold(x, "y:r=1&n<1?9");
+        x.days(60);
+        for (int turn = 0; turn < 2; turn++) {
+            for (int i = 0; i < 60; i++) {
+                check.due("words of " + i, x.log(i, 0), turn == 0 ? 1 : 3);
+                check.due("slips of " + i, x.log(i, 1), turn == 0 ? 0 : 3);
+                check.due("who of " + i, x.log(i, 2), turn == 0 ? 1 : 2);
+            }
+            x.back();
         }
     }
 
