@@ -198,6 +198,11 @@ final class Promise04Laws {
             String behind = "[".repeat(depth - 1) + "v" + "]".repeat(depth - 1);
             law("y:!v=" + behind + "?2", depth <= 6 ? -1 : 10);
             law("y:(v=" + behind + ")?2", depth <= 6 ? -1 : 10);
+            for (char sign : "+-*/".toCharArray()) {
+                law("y:[v" + sign + behind + "]", depth <= 6 ? -1 : 10);
+                law("y:v" + sign + sum, depth <= 6 ? -1 : 10);
+                law("y:!v" + sign + behind + "=1?2", depth <= 6 ? -1 : 10);
+            }
         }
     }
 

@@ -161,6 +161,7 @@ public final class Promise05TextTest {
         Check.hold(x, "y:v-3");
         check.due("a short one behind long ones", x.heard(0, 5), 4);
         Check.hold(x, "y:1;y:v=7?2;y:!v=1?3;y:5;y:9");
+        Check.faultOf(x, "y:1;y:2;y:3", 1);
         Check.hold(x, "y:v=6?3");
         check.due("no clause of a longer one", x.heard(0, 5), 0);
         Check.faultOf(x, "y:!v=1?2", 1);

@@ -93,25 +93,25 @@ public final class Promise21UndoTest {
         return out;
     }
 
-    /** Of each sort of ACT all that it changed is as it was. */
+    /** Of each sort of ACT all that it changed is as it was, be it the first of its sort or a later one. */
     private static void eachActWhole() {
-        GallopDispatch x = Check.ride("sl10p2m1c50;dx2v5e2;dx9;fx4d2");
+        GallopDispatch x = Check.ride("sl10p2m1c99;dx2v5e2;dx9;fx4d9");
         List<long[]> were = new ArrayList<>();
-        for (int k = 0; k < 9; k++) {
+        for (int k = 0; k < 27; k++) {
             were.add(all(x));
-            switch (k) {
-                case 0: x.move(0, 5); break;
-                case 1: x.voice(0, 9); break;
+            switch (k % 9) {
+                case 0: x.move(0, x.man(0, 0) == 5 ? 7 : 5); break;
+                case 1: x.voice(0, 9 - k / 9); break;
                 case 2: x.deed(0); break;
                 case 3: x.feedHorse(true); break;
                 case 4: x.feedHorse(false); break;
                 case 5: x.fill(0); break;
-                case 6: x.rain(7); break;
+                case 6: x.rain(7 + k / 9); break;
                 case 7: x.days(1); break;
-                default: x.years(1, 4L); break;
+                default: x.years(1, 4L + k); break;
             }
         }
-        for (int k = 8; k >= 0; k--) {
+        for (int k = were.size() - 1; k >= 0; k--) {
             check.due("undone", x.undo(), k);
             long[] is = all(x);
             for (int j = 0; j < is.length; j++) {

@@ -40,6 +40,9 @@ public final class Promise26StandTest {
             standIs("only at " + place, "sl10p1m0;dx5", "y:d=0&n=" + place + "?9", 0, place, 1);
         }
         standIs("only behind the road", "sl9p1m0;dx5", "y:d=0&n=10?9", 0, 0, 0);
+        standIs("only from behind the road", "sl5p1m0;dx5", "y:d>5?9", 0, 0, 0);
+        standIs("only from the end of the road", "sl5p1m0;dx3", "y:d>4?9", 0, 0, 1);
+        standIs("only from the end of the road, at its start", "sl5p1m0;dx3", "y:d>4&n=0?9", 0, 5, 1);
         standIs("the greatest length", "sl30p1m0;dx5", "y:d=0&n=30?9", 0, 30, 1);
         // He is heard up to ahead of halfway: from 29 and from 30 at fifteen steps.
         standIs("the farther the better", "sl30p1w20m0;dx30", "y:n<d?1", 0, 29, 15);

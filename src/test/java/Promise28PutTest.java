@@ -6,6 +6,7 @@ public final class Promise28PutTest {
         check = new Check("Promise28PutTest");
         noSuchWhat();
         anotherPlaceThanNow();
+        asTheyStandNow();
         firstAndLast();
         ofSeveralTheLeast();
         eachByHimself();
@@ -38,7 +39,22 @@ public final class Promise28PutTest {
         putIs("he stands at 1", "sl5p1m0;dx1", "y:9", 0, 1);
         putIs("he is heard only where he stands", "sl5p1m0;dx0", "y:d=0&n=0?9", 1, 0);
         putIs("he is heard only at 3, where he stands", "sl5p1m0;dx3", "y:d=0&n=3?9", 0, 0);
+        putIs("heard only from behind the road", "sl5p1m0;dx5", "y:d>5?9", 0, 0);
         putIs("any move loses one", "sl5p1m0;dx0;dx3", "y:d=0&n=0?9;y:d=0&n=3?9", 1, 1);
+    }
+
+    /** "than now": not than told. */
+    private static void asTheyStandNow() {
+        GallopDispatch x = Check.ride("sl5p1m0;dx3");
+        Check.hold(x, "y:9");
+        x.move(0, 0);
+        check.due("he stands at 0 now", x.put(0), 1);
+        GallopDispatch y = Check.ride("sl5p1m0;dx0;dx5");
+        Check.hold(y, "y:d=0&n=0?9;y:d=0&n=4?9");
+        y.move(0, 4);
+        // Now 0 is mentioned at 4: the other at 0 makes two of them.
+        check.due("the other to 0", y.put(0), 100);
+        check.due("two", y.put(1), 2);
     }
 
     private static void firstAndLast() {

@@ -59,6 +59,8 @@ public final class Promise29LeastTest {
         // In the mud: heard 1 or 2 it is the other one; heard 3 himself.
         leastIs("no slip", "sm1;dv0;dv0", "y:v", 0, 3);
         leastIs("the other's slip is his word", "sm1;dv1;dv0", "y:v", 1, 0);
+        leastIs("room for the other alone", "sl10p5w1m0;dr1;dr2", "y:n=0&r=1?9;y:n=5&r=2?9", 1, -1);
+        leastIs("room for him, too", "sl10p5w2m0;dr1;dr2", "y:n=0&r=1?9;y:n=5&r=2?9", 1, 0);
         leastIs("no room", "sl10p5w1m0;dv9;dv0", "y:n=0&v>8?9;y:n>0?v", 1, -1);
     }
 }

@@ -9,6 +9,7 @@ public final class Promise35GameTest {
         outOfBounds();
         noughtToFour();
         voiceNineAtMost();
+        fromTheVoiceNow();
         lessThanNought();
         theOneAndTheOther();
         check.end();
@@ -71,6 +72,17 @@ public final class Promise35GameTest {
                 check.due("as the other", d.game(1, 0, 0, x, 1), 3 * heard - x);
             }
         }
+    }
+
+    /** "how much louder": than he is now. */
+    private static void fromTheVoiceNow() {
+        GallopDispatch d = Check.ride("sl30p1w20m0;dv2r1;dv2r2");
+        Check.hold(d, "y:r=1&n<v?9;y:r=2&n>30-v?9");
+        check.due("as told", d.game(0, 1, 1, 0, 0), 8);
+        d.voice(0, 6);
+        d.voice(1, 8);
+        check.due("as it is now", d.game(0, 1, 1, 0, 0), 20);
+        check.due("of the other", d.game(0, 1, 0, 4, 1), 23);
     }
 
     private static void lessThanNought() {

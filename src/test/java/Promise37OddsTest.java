@@ -148,5 +148,10 @@ public final class Promise37OddsTest {
         oddsAre("the next one", "sl5p5m1;d;d", "y:2", 1, 50, 750000000);
         oddsAre("without mud", "sl5p5m0;d;d", "y:2", 0, 50, 750000000);
         oddsAre("heard 3", "sl5p5m1;d;d", "y:3", 0, 50, 750000000);
+        // Whether it is a slip goes by who is heard most, not by who is asked for.
+        oddsAre("a loud one, no slip", "sl5p5m1;dr9;dr1", "y:r", 1, 50, 0);
+        oddsAre("a loud one himself", "sl5p5m1;dr9;dr1", "y:r", 0, 50, 750000000);
+        oddsAre("a low one, a slip", "sl5p5m1;dr2;dr0", "y:r", 1, 50, 750000000);
+        oddsAre("a slip of the last is the first's", "sl5p5m1;dr0;dr0;dr1", "y:r", 0, 50, 750000000);
     }
 }
